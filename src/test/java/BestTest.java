@@ -115,7 +115,13 @@ public final class BestTest {
         walkIs(x, 0, 1000 * 9 + 10 * 19);
         x.set(6, 0, 1);
         walkIs(x, 0, 1000 * 9 + 10 * 19 + 1);
-        // A PLACE more than what it is worth: one in ten million.
+        // What a PLACE more brings is just what it costs: the first of both.
+        x = Told.under("shows 90 * (day = 0) + (day = 1); moves 1; minds 0;");
+        x.glove(0, 0, 9);
+        walkIs(x, 0, 1000 * 9 + 10 * 9);
+        x = Told.under("shows 90 * (day = 0) + (day = 1); moves -1; minds 0;");
+        x.glove(0, 0, 9);
+        walkIs(x, 0, 1000 * 8 + 10 * 9);
         x = Told.under("shows 100 * (day = 3) + (day < 3) * 90; moves 1; minds 0;");
         x.glove(0, 0, 9);
         walkIs(x, 0, 1000 * 12 + 10 * 12);
@@ -134,6 +140,11 @@ public final class BestTest {
         x = Told.under("shows 30 - far; moves far = 4; minds 0;");
         x.glove(0, 0, 9);
         walkIs(x, 0, 1000 * 9 + 10 * 9);
+        // FROM is no more than TO: she can't come from far to the first PLACE.
+        x = Told.under("shows far * 9; moves 0; minds 0;");
+        x.glove(0, 0, 0);
+        walkIs(x, 0, 0);
+        due.is("walk(0, 1)", 0, x.walk(0, 1));
         x = Told.under("shows 30; moves 1 - (far = 4); minds 0;");
         x.glove(0, 0, 2);
         // FROM 0 it stays on 4; FROM 6 it would stay on 2, and she not pass it.

@@ -20,19 +20,31 @@ public final class HostTest {
         due.end("HostTest");
     }
 
-    /** What an item is, looked at through a GLOVE that is hung up there: only PLACES can be told. */
-    private static boolean holds(OneGlove x, int sheet, int... want) {
-        for (int i = 0; i < want.length; i++) {
-            x.sheet(3, -1, 0);
-            boolean byteLike = x.sheet(3, 0, 1) == 1 && x.copy(sheet, i, 3, 0, 1) == 1;
-            boolean shortLike = !byteLike && x.sheet(3, 1, 1) == 1 && x.copy(sheet, i, 3, 0, 1) == 1;
-            boolean intLike = !byteLike && !shortLike && x.sheet(3, 2, 1) == 1 && x.copy(sheet, i, 3, 0, 1) == 1;
-            x.set(4, 0, want[i]);
-            if (!byteLike && !shortLike && !intLike || x.tells(3, 0, 0) != -1) {
-                return false;
+    /**
+     * What an item of a SHEET of this sort reads as, for tells() looks at it: a PLACE, -1 for NONE,
+     * -99 for neither. GLOVE 0 is hung about for that, it is gone on DAY 20; SHEET 3 is used.
+     */
+    private static int item(OneGlove x, int sheet, int i, int sort) {
+        x.sheet(3, sort, 1);
+        x.copy(sheet, i, 3, 0, 1);
+        for (int place = 0; place < 20; place++) {
+            x.set(4, 0, place);
+            if (x.tells(3, 0, 0) == -1) {
+                return place;
             }
         }
-        return true;
+        x.sheet(3, sort, 21);
+        for (int day = 0; day < 20; day++) {
+            x.cell(3, day, x.day(0, day, 0));
+        }
+        x.copy(sheet, i, 3, 20, 1);
+        return x.tells(3, 0, 0) == -1 ? -1 : -99;
+    }
+
+    private static void rowIs(OneGlove x, int sheet, int sort, int... want) {
+        for (int i = 0; i < want.length; i++) {
+            due.is("item " + i + " of SHEET " + sheet + ", sort " + sort, want[i], item(x, sheet, i, sort));
+        }
     }
 
     private static void promise24() {
@@ -46,11 +58,11 @@ public final class HostTest {
         due.is("sheet(3, 0, 0)", 1, x.sheet(3, 0, 0));
         due.is("none in it", -12, x.cell(3, 0, 0));
         due.is("sheet(0, 1, 3)", 1, x.sheet(0, 1, 3));
-        due.holds("all 0", holds(x, 0, 0, 0, 0));
+        rowIs(x, 0, 1, 0, 0, 0);
         x.cell(0, 0, 7);
         x.cell(0, 2, 9);
         due.is("sheet(0, 1, 3) anew", 1, x.sheet(0, 1, 3));
-        due.holds("all 0 anew", holds(x, 0, 0, 0, 0));
+        rowIs(x, 0, 1, 0, 0, 0);
         due.is("sheet(0, -1, -99)", 1, x.sheet(0, -1, -99));
         due.is("missing", -11, x.cell(0, 0, 0));
         due.is("sheet(1, -1, 99)", 1, x.sheet(1, -1, 99));
@@ -79,19 +91,17 @@ public final class HostTest {
     private static void promise25() {
         OneGlove x = new OneGlove();
         x.glove(0, 0, 0);
-        int[] v = {5, 256 + 6, 65536 + 7, -1, -257, 255, 65535, 128};
-        int[] bytes = {5, 6, 7, -1, -1, -1, -1, -128};
-        int[] shorts = {5, 262, 7, -1, -257, 255, -1, 128};
-        for (int i = 0; i < v.length; i++) {
-            x.sheet(0, 0, 2);
-            due.is("cell(0, 1, " + v[i] + ")", 1, x.cell(0, 1, v[i]));
-            due.holds("byte of " + v[i], reads(x, bytes[i]));
-            x.sheet(0, 1, 2);
-            due.is("cell(0, 1, " + v[i] + ")", 1, x.cell(0, 1, v[i]));
-            due.holds("short of " + v[i], reads(x, shorts[i]));
-            x.sheet(0, 2, 2);
-            due.is("cell(0, 1, " + v[i] + ")", 1, x.cell(0, 1, v[i]));
-            due.holds("int of " + v[i], reads(x, v[i]));
+        int[] v = {5, 256 + 6, 65536 + 7, -1, -257, 255, 65535, 128, -250};
+        int[][] want = {
+            {5, 6, 7, -1, -1, -1, -1, -99, 6},
+            {5, -99, 7, -1, -99, -99, -1, -99, -99},
+            {5, -99, -99, -1, -99, -99, -99, -99, -99}};
+        for (int sort = 0; sort < 3; sort++) {
+            for (int i = 0; i < v.length; i++) {
+                x.sheet(0, sort, 2);
+                due.is("cell(0, 1, " + v[i] + ")", 1, x.cell(0, 1, v[i]));
+                rowIs(x, 0, sort, 0, want[sort][i]);
+            }
         }
         due.is("cell(0, -1, 0)", -12, x.cell(0, -1, 0));
         due.is("cell(0, 2, 0)", -12, x.cell(0, 2, 0));
@@ -103,36 +113,6 @@ public final class HostTest {
         due.is("cell(1, -1, 0)", -11, x.cell(1, -1, 0));
     }
 
-    /** Whether item 1 of SHEET 0 reads as a PLACE, as NONE, or as neither. */
-    private static boolean reads(OneGlove x, int want) {
-        boolean gone = want == -1;
-        boolean place = want >= 0 && want < 20;
-        // On DAY 10 a WOOLLY one is gone, a GLOVE isn't.
-        OneGlove y = new OneGlove();
-        y.glove(0, 0, place ? want : 0);
-        x.set(4, 0, place ? want : 0);
-        x.cell(0, 0, place ? want : 0);
-        int asPlace = x.tells(0, 0, 0);
-        return place == (asPlace == -1) && gone == readsGone(x);
-    }
-
-    private static boolean readsGone(OneGlove x) {
-        // Moved to where a WOOLLY one is told as gone: by a row of eleven of the like sort.
-        for (int sort = 0; sort < 3; sort++) {
-            x.sheet(1, sort, 11);
-            if (x.copy(0, 1, 1, 10, 1) == 1) {
-                break;
-            }
-        }
-        int woolly = x.count(0) > 1 ? 1 : x.glove(4, 0, 0);
-        for (int day = 0; day < 10; day++) {
-            x.cell(1, day, x.day(woolly, day, 0));
-        }
-        boolean gone = x.tells(1, woolly, 0) == -1;
-        x.sheet(1, -1, 0);
-        return gone;
-    }
-
     private static void promise26() {
         for (int sort = 0; sort < 3; sort++) {
             OneGlove x = new OneGlove();
@@ -140,16 +120,16 @@ public final class HostTest {
             Told.row(x, 0, sort, new int[] {1, 2, 3, 4, 5, 6});
             Told.row(x, 1, sort, new int[] {11, 12, 13, 14});
             due.is("copy(0, 1, 1, 2, 2)", 2, x.copy(0, 1, 1, 2, 2));
-            due.holds("they came", holds(x, 1, 11, 12, 2, 3));
-            due.holds("the others stay", holds(x, 0, 1, 2, 3, 4, 5, 6));
+            rowIs(x, 1, sort, 11, 12, 2, 3);
+            rowIs(x, 0, sort, 1, 2, 3, 4, 5, 6);
             due.is("copy(0, 0, 0, 2, 4)", 4, x.copy(0, 0, 0, 2, 4));
-            due.holds("as they were, to the right", holds(x, 0, 1, 2, 1, 2, 3, 4));
+            rowIs(x, 0, sort, 1, 2, 1, 2, 3, 4);
             due.is("copy(0, 1, 0, 0, 5)", 5, x.copy(0, 1, 0, 0, 5));
-            due.holds("as they were, to the left", holds(x, 0, 2, 1, 2, 3, 4, 4));
+            rowIs(x, 0, sort, 2, 1, 2, 3, 4, 4);
             due.is("copy(1, 0, 0, 2, 4)", 4, x.copy(1, 0, 0, 2, 4));
-            due.holds("all of it", holds(x, 0, 2, 1, 11, 12, 2, 3));
+            rowIs(x, 0, sort, 2, 1, 11, 12, 2, 3);
             due.is("copy(0, 6, 1, 4, 0)", 0, x.copy(0, 6, 1, 4, 0));
-            due.holds("none came", holds(x, 1, 11, 12, 2, 3));
+            rowIs(x, 1, sort, 11, 12, 2, 3);
         }
     }
 
@@ -167,7 +147,7 @@ public final class HostTest {
             due.is("copy(0, " + args[0] + ", 1, " + args[1] + ", " + args[2] + ")", -12,
                     x.copy(0, args[0], 1, args[1], args[2]));
         }
-        due.holds("nothing came", holds(x, 1, 4, 5));
+        rowIs(x, 1, 1, 4, 5);
     }
 
     private static void promise26Order() {

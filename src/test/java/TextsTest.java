@@ -11,6 +11,7 @@ public final class TextsTest {
         promise6();
         promise6Full();
         promise6Faults();
+        promise6Bytes();
         promise6Open();
         promise6Edges();
         promise7();
@@ -58,6 +59,13 @@ public final class TextsTest {
         x.force(2);
         due.is("minds of text 2", 0, x.day(0, 0, 2));
         due.is("WHERE of text 2", 2, x.day(0, 1, 0));
+        for (int i = 0; i < 5; i++) {
+            due.is("a long one", -168, Told.text(x, "shows 1" + "+1".repeat(30) + " 1;"));
+        }
+        due.is("text 4 behind five FAULTS", 4, Told.text(x, "shows 9;moves 0;minds 8;"));
+        x.force(4);
+        due.is("LIKELY of text 4", 9, x.day(0, 0, 1));
+        due.is("minds of text 4", 8, x.day(0, 0, 2));
     }
 
     private static void promise6Full() {
@@ -104,6 +112,8 @@ public final class TextsTest {
         fault("shows 1 ; moves 2 ; minds 3 ; ;", 30);
         fault("shows 1 ; moves 2 ; minds 3 ; shows", 30);
         fault("shows 1 ; moves 2 ; minds 3 ;\t", 29);
+        fault("shows 1 ; moves 2 ; minds 3 ; 4", 30);
+        fault("shows 1 ; moves 2 ; minds 3 ; place", 30);
         fault("shows 1 ; minds 2 ; moves 3 ;", 10);
         fault("shows 1 ; shows 2 ; minds 3 ;", 10);
         fault("shows ; moves 2 ; minds 3 ;", 6);
@@ -115,6 +125,12 @@ public final class TextsTest {
         in("placeplace", 0);
         in("place height", 6);
         in("colour", 0);
+        in("lumber", 0);
+        in("numbed", 0);
+        in("numbe", 0);
+        in("numbers", 0);
+        in("dot 1", 0);
+        in("1 nor 2", 2);
         in("a", 0);
         in("1 + shows", 4);
         in("1 + $", 4);
@@ -155,6 +171,17 @@ public final class TextsTest {
         in("1" + (char) 13, 1);
         in("3*-2--1", -1);
         in("not(1)and(2)or-(3)", -1);
+    }
+
+    /** Each byte there is, as all of an E: a digit stands, ( - and blanks end too early. */
+    private static void promise6Bytes() {
+        for (int letter = 0; letter < 256; letter++) {
+            boolean digit = letter >= '0' && letter <= '9';
+            boolean tooEarly = letter == '(' || letter == '-' || letter == 32 || letter == 10;
+            in(String.valueOf((char) letter), digit ? -1 : tooEarly ? 1 : 0);
+            in("1" + (char) letter + "2", digit ? -1 : "+-*<=".indexOf(letter) >= 0 ? -1
+                    : letter == 32 || letter == 10 ? 2 : letter == ';' ? 2 : 1);
+        }
     }
 
     private static void promise6Open() {
@@ -261,6 +288,12 @@ public final class TextsTest {
         value("0 and 7", 0);
         value("-1 and -2", 1);
         value("4 and 2", 1);
+        value("(0 or 0) + 5", 5);
+        value("(0 and 7) + 5", 5);
+        value("(7 < 6) + 5", 5);
+        value("(7 = 6) + 5", 5);
+        value("not 7 + 5", 0);
+        value("(not 7) + 5", 5);
         value("not 0", 1);
         value("not 5", 0);
         value("not not 5", 1);
@@ -309,6 +342,9 @@ public final class TextsTest {
         x.glove(5, 0, 3);
         due.is("moves above 19 is 19 ahead of the KIND", 12, x.day(0, 1, 0));
         due.is("moves below -19 is -19 ahead of the KIND", 3, x.day(0, 2, 0));
+        x.glove(0, 0, 0);
+        due.is("moves of 19", 19, x.day(1, 1, 0));
+        due.is("moves of -19", 0, x.day(1, 2, 0));
     }
 
     private static void names() {
