@@ -189,6 +189,12 @@ public final class BestTest {
         x = Told.under("shows day; moves 0; minds 0;");
         x.glove(5, 0, 9);
         due.is("best(0, 0): the last DAY", 29, x.best(0, 0));
+        for (int day = 0; day < 30; day++) {
+            x = Told.under("shows 7 + (day = " + day + "); moves 0; minds 0;");
+            x.glove(5, 0, 9);
+            due.is("best(0, 0): on DAY " + day, day, x.best(0, 0));
+            due.is("best(0, 1): on DAY " + day, 8, x.best(0, 1));
+        }
     }
 
     private static void promise15() {

@@ -128,6 +128,12 @@ public final class HostTest {
             rowIs(x, 0, sort, 2, 1, 2, 3, 4, 4);
             due.is("copy(1, 0, 0, 2, 4)", 4, x.copy(1, 0, 0, 2, 4));
             rowIs(x, 0, sort, 2, 1, 11, 12, 2, 3);
+            x.sheet(2, sort, 40);
+            x.cell(2, 39, 19);
+            due.is("copy(2, 39, 2, 0, 1)", 1, x.copy(2, 39, 2, 0, 1));
+            due.is("copy(2, 0, 2, 0, 40)", 40, x.copy(2, 0, 2, 0, 40));
+            due.is("copy(2, 0, 2, 1, 39)", 39, x.copy(2, 0, 2, 1, 39));
+            rowIs(x, 2, sort, 19, 19, 0);
             due.is("copy(0, 6, 1, 4, 0)", 0, x.copy(0, 6, 1, 4, 0));
             rowIs(x, 1, sort, 11, 12, 2, 3);
         }
