@@ -83,9 +83,9 @@ public final class DaysTest {
     }
 
     private static void promise8Gone() {
-        OneGlove x = oneOfEach("shows 50; moves 0; minds 7 + day;", 3, 11);
         int[] lasts = {20, 23, 20, 23, 10, 30};
         for (int kind = 0; kind < 6; kind++) {
+            OneGlove x = oneOfEach("shows 50; moves 0; minds 7 + day;", 3, 11);
             for (int day = 0; day < 30; day++) {
                 boolean there = day < lasts[kind];
                 String of = "KIND " + kind + " on DAY " + day;
@@ -99,10 +99,10 @@ public final class DaysTest {
     }
 
     private static void promise8Walk() {
-        OneGlove x = new OneGlove();
-        x.glove(0, 0, 0);
         int[][] walks = {{3, 8}, {8, 3}, {5, 5}, {0, 0}, {19, 19}, {19, 0}, {0, 19}};
         for (int[] walk : walks) {
+            OneGlove x = new OneGlove();
+            x.glove(0, 0, 0);
             x.set(0, 0, walk[0]);
             x.set(1, 0, walk[1]);
             for (int place = 0; place < 20; place++) {

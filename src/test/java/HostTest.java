@@ -20,30 +20,9 @@ public final class HostTest {
         due.end("HostTest");
     }
 
-    /**
-     * What an item of a SHEET of this sort reads as, for tells() looks at it: a PLACE, -1 for NONE,
-     * -99 for neither. GLOVE 0 is hung about for that, it is gone on DAY 20; SHEET 3 is used.
-     */
-    private static int item(OneGlove x, int sheet, int i, int sort) {
-        x.sheet(3, sort, 1);
-        x.copy(sheet, i, 3, 0, 1);
-        for (int place = 0; place < 20; place++) {
-            x.set(4, 0, place);
-            if (x.tells(3, 0, 0) == -1) {
-                return place;
-            }
-        }
-        x.sheet(3, sort, 21);
-        for (int day = 0; day < 20; day++) {
-            x.cell(3, day, x.day(0, day, 0));
-        }
-        x.copy(sheet, i, 3, 20, 1);
-        return x.tells(3, 0, 0) == -1 ? -1 : -99;
-    }
-
     private static void rowIs(OneGlove x, int sheet, int sort, int... want) {
         for (int i = 0; i < want.length; i++) {
-            due.is("item " + i + " of SHEET " + sheet + ", sort " + sort, want[i], item(x, sheet, i, sort));
+            due.is("item " + i + " of SHEET " + sheet + ", sort " + sort, want[i], Told.item(x, sheet, sort, i));
         }
     }
 
@@ -89,8 +68,6 @@ public final class HostTest {
     }
 
     private static void promise25() {
-        OneGlove x = new OneGlove();
-        x.glove(0, 0, 0);
         int[] v = {5, 256 + 6, 65536 + 7, -1, -257, 255, 65535, 128, -250};
         int[][] want = {
             {5, 6, 7, -1, -1, -1, -1, -99, 6},
@@ -98,11 +75,15 @@ public final class HostTest {
             {5, -99, -99, -1, -99, -99, -99, -99, -99}};
         for (int sort = 0; sort < 3; sort++) {
             for (int i = 0; i < v.length; i++) {
+                OneGlove x = new OneGlove();
+                x.glove(0, 0, 0);
                 x.sheet(0, sort, 2);
                 due.is("cell(0, 1, " + v[i] + ")", 1, x.cell(0, 1, v[i]));
                 rowIs(x, 0, sort, 0, want[sort][i]);
             }
         }
+        OneGlove x = new OneGlove();
+        x.sheet(0, 2, 2);
         due.is("cell(0, -1, 0)", -12, x.cell(0, -1, 0));
         due.is("cell(0, 2, 0)", -12, x.cell(0, 2, 0));
         due.is("cell(0, most, 0)", -12, x.cell(0, MOST, 0));

@@ -59,13 +59,15 @@ public final class TextsTest {
         x.force(2);
         due.is("minds of text 2", 0, x.day(0, 0, 2));
         due.is("WHERE of text 2", 2, x.day(0, 1, 0));
+        x = new OneGlove();
+        x.glove(0, 0, 0);
         for (int i = 0; i < 5; i++) {
             due.is("a long one", -168, Told.text(x, "shows 1" + "+1".repeat(30) + " 1;"));
         }
-        due.is("text 4 behind five FAULTS", 4, Told.text(x, "shows 9;moves 0;minds 8;"));
-        x.force(4);
-        due.is("LIKELY of text 4", 9, x.day(0, 0, 1));
-        due.is("minds of text 4", 8, x.day(0, 0, 2));
+        due.is("text 1 behind five FAULTS", 1, Told.text(x, "shows 9;moves 0;minds 8;"));
+        x.force(1);
+        due.is("LIKELY of text 1", 9, x.day(0, 0, 1));
+        due.is("minds of text 1", 8, x.day(0, 0, 2));
     }
 
     private static void promise6Full() {

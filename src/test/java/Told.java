@@ -35,6 +35,25 @@ final class Told {
         }
     }
 
+    /**
+     * What an item of a SHEET of this sort reads as, for tells() looks at it: a PLACE, -1 for NONE, -99 for
+     * neither. GLOVE 0 is one that stays where it is till it is gone, on DAY 20; SHEET 3 is used.
+     */
+    static int item(OneGlove x, int sheet, int sort, int i) {
+        x.sheet(3, sort, 1);
+        x.copy(sheet, i, 3, 0, 1);
+        int places = x.tells(3, 0, 3);
+        if (places != 0) {
+            return Integer.numberOfTrailingZeros(places);
+        }
+        x.sheet(3, sort, 21);
+        for (int day = 0; day < 20; day++) {
+            x.cell(3, day, x.told(0, 4));
+        }
+        x.copy(sheet, i, 3, 20, 1);
+        return x.tells(3, 0, 0) == -1 ? -1 : -99;
+    }
+
     /** Where a GLOVE is on all DAYS. */
     static int[] where(OneGlove x, int glove) {
         int[] where = new int[30];

@@ -71,10 +71,10 @@ public final class ToldTest {
             due.is("KINDS of row " + i, kinds[i], x.tells(2, 0, 1));
         }
         due.is("its KIND is as it was", 3, x.told(0, 7));
-        x = Told.under("shows 0; moves 0; minds 0;");
-        x.glove(0, 4, 7);
         int[] till = new int[30];
         for (int last = 0; last < 30; last++) {
+            x = Told.under("shows 0; moves 0; minds 0;");
+            x.glove(0, 4, 7);
             for (int day = 0; day < 30; day++) {
                 till[day] = day < last ? 7 : -1;
             }
