@@ -264,6 +264,11 @@ public final class DaysEdgesTest {
         due.is("found(0, " + n + ", 1)", below, x.found(0, n, 1));
     }
 
+    /** The same, told by a fraction that is not in lowest terms yet. */
+    private static void foundIs(OneGlove x, int n, long above, long below, long divisor) {
+        foundIs(x, n, above / divisor, below / divisor);
+    }
+
     private static void foundBy() {
         due.sentence("FOUND by n DAYS (0 .. 8)");
         OneGlove x = Told.under("shows 10 * (day = 0) + 100 * (day = 7); moves 0; minds 0;");
@@ -285,6 +290,12 @@ public final class DaysEdgesTest {
         for (int n = 0; n <= 8; n++) {
             foundIs(x, n, (1L << n) - 1, 1L << n);
         }
+        // 9, 8, 7, .. 2 of 10 are left: of 10000000 there are 36288 after eight DAYS.
+        x = Told.under("shows (day + 1) * 10; moves 0; minds 0;");
+        x.glove(GLOVE, 0, 0);
+        foundIs(x, 2, 28, 100, 4);
+        foundIs(x, 3, 496, 1000, 8);
+        foundIs(x, 8, 9963712, 10000000, 64);
         // The dearest of them: nothing in it can be cut down.
         x = Told.under("shows 97; moves 0; minds 0;");
         x.glove(GLOVE, 0, 0);

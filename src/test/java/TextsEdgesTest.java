@@ -92,6 +92,7 @@ public final class TextsEdgesTest {
         in("1orside", 1);
         in("9day", 1);
         in("1234 5", 5);
+        in("12345", 0);
         fault("showsside;", 0);
         fault("shows1;moves2;mindsday;", 14);
         stands("shows1;moves2;minds3;");

@@ -516,13 +516,30 @@ public final class ToldEdgesTest {
         x.glove(0, 0, 5);
         x.image();
         x.set(4, 0, 6);
+        x.set(0, 0, 3);
+        x.set(1, 0, 4);
+        x.set(2, 0, 1);
+        Told.text(x, "shows 1; moves 1; minds 1;");
+        x.force(1);
+        x.glove(1, 2, 8);
         x.image();
         x.set(4, 0, 7);
-        due.is("back()", 1, x.back());
-        due.is("as in the last IMAGE", 6, x.told(0, 4));
-        due.is("image() leaves all as it is", 1, x.image());
-        due.is("GLOVES", 1, x.count(0));
-        due.is("PLACE", 6, x.told(0, 4));
+        x.set(0, 0, 9);
+        x.set(1, 0, 9);
+        x.set(2, 0, 0);
+        x.force(0);
+        x.set(4, 1, 7);
+        due.is("back()", 2, x.back());
+        int[] last = {3, 4, 1, 0, 6};
+        for (int round = 0; round < 2; round++) {
+            for (int what = 0; what < 5; what++) {
+                due.is("told(0, " + what + "), as in the last IMAGE", last[what], x.told(0, what));
+            }
+            due.is("PLACE of 1, as in the last IMAGE", 8, x.told(1, 4));
+            due.is("THE RULE, as in the last IMAGE", 1, x.count(4));
+            due.is("GLOVES", 2, x.count(0));
+            due.is("image() leaves all as it is", 2, x.image());
+        }
     }
 
     private static void backAsInTheImage() {
