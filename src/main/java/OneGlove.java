@@ -158,7 +158,7 @@ public final class OneGlove {
         }
 
         void keep(int item) {
-            if (size < row.length) {
+            if (size >= 0 && size < row.length) {
                 row[size] = item;
                 size++;
             }
@@ -194,7 +194,7 @@ public final class OneGlove {
         private int count;
 
         boolean add(int letter) {
-            if (size >= bytes.length) {
+            if (size < 0 || size >= bytes.length) {
                 return false;
             }
             bytes[size] = letter;
@@ -243,7 +243,7 @@ public final class OneGlove {
         }
 
         private void put(int token, int start, int number) {
-            if (count < tokens.length && count < starts.length && count < numbers.length) {
+            if (count >= 0 && count < tokens.length && count < starts.length && count < numbers.length) {
                 tokens[count] = token;
                 starts[count] = start;
                 numbers[count] = number;
